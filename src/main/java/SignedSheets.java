@@ -522,8 +522,7 @@ public final class SignedSheets {
             sheets[to] = Math.min(MOST_SHEETS, sheets[to] + number);
         }
 
-        void lend(int creditor, int debtor, int number) {
-            move(creditor, debtor, number);
+        void owe(int debtor, int creditor, int number) {
             debts[debtor * PERSONS + creditor] += number;
         }
 
@@ -747,7 +746,8 @@ public final class SignedSheets {
                     folk.move(doer, other, number);
                     break;
                 case LEND:
-                    folk.lend(doer, other, number);
+                    folk.move(doer, other, number);
+                    folk.owe(other, doer, number);
                     break;
                 case STEAL:
                     folk.move(other, doer, number);
