@@ -964,8 +964,7 @@ public final class SignedSheets {
         private final int[] circles = new int[SETS];
 
         int fewestHands(Folk folk) {
-            sums[0] = 0;
-            circles[0] = 0;
+            // set 0 is left out: its sum and its circles are always 0
             for (int set = 1; set < SETS; set++) {
                 int low = Integer.numberOfTrailingZeros(set);
                 sums[set] = sums[set & set - 1] + folk.net(low);

@@ -414,6 +414,7 @@ public final class PromisesTest {
 
     private static void p18Last() {
         SignedSheets x = new SignedSheets();
+        fraction("18 no years", x.last(0, 0, 9, 0), x.last(0, 0, 9, 1), 1, 1);
         fraction("18 none", x.last(0, 2, 1, 0), x.last(0, 2, 1, 1), 81, 100);
         fraction("18 one", x.last(1, 2, 1, 0), x.last(1, 2, 1, 1), 99, 100);
         fraction("18 enough", x.last(2, 2, 1, 0), x.last(2, 2, 1, 1), 1, 1);
@@ -514,6 +515,7 @@ public final class PromisesTest {
 
     private static void p24Blots() {
         SignedSheets x = new SignedSheets();
+        fraction("24 no sheets", x.blots(0, 0, 9, 0), x.blots(0, 0, 9, 1), 1, 1);
         fraction("24 all", x.blots(2, 2, 3, 0), x.blots(2, 2, 3, 1), 49, 100);
         fraction("24 one", x.blots(2, 1, 3, 0), x.blots(2, 1, 3, 1), 91, 100);
         fraction("24 none", x.blots(2, 0, 3, 0), x.blots(2, 0, 3, 1), 1, 1);
@@ -566,6 +568,18 @@ public final class PromisesTest {
         x.seen(1, 8, 4, true);
         due("27 a four is", x.signs(), 28);
         x.forget();
+        x.seen(1, 8, 5, false);
+        due("27 a five is signed without plenty", x.signs() >> 11, 0);
+        x.forget();
+        x.seen(1, 8, 4, true);
+        due("27 a four is not", x.signs() >> 11, 0);
+        x.forget();
+        x.seen(8, 8, 1, true);
+        due("27 plenty", x.signs() >> 11, 1);
+        x.forget();
+        x.seen(7, 8, 1, true);
+        due("27 not quite plenty", x.signs() >> 11, 0);
+        x.forget();
         x.seen(1, 2, 2, true);
         due("27 two", x.signs(), 7);
         for (int k = 2; k <= 8; k++) {
@@ -595,12 +609,18 @@ public final class PromisesTest {
         SignedSheets x = new SignedSheets();
         due("29 nobody", x.book(9999, 99, 0), 0);
         x = people(5, 5, 1);
-        // 74: C, worth 4; 5624: C, worth 2
+        // x and what follows: 74 C 4; 5624 C 2; 28652 C 6; 51790 E 1; 17641 B 7; 12409 B 8
         due("29 signed", x.book(0, 1, 0), 4);
         due("29 signed", x.book(0, 1, 1), 0);
         due("29 without", x.book(0, 1, 2), 1);
         due("29 second is forged", x.book(0, 2, 0), 6);
         due("29 second is forged", x.book(0, 2, 1), 1);
+        due("29 third", x.book(0, 3, 0), 12);
+        due("29 who is not there does nothing", x.book(0, 4, 0), 12);
+        due("29 who is not there does nothing", x.book(0, 4, 1), 2);
+        due("29 fifth", x.book(0, 5, 0), 19);
+        due("29 sixth", x.book(0, 6, 0), 27);
+        due("29 sixth", x.book(0, 6, 1), 2);
         due("29 nothing in fact", x.state(2, 0), 1);
         due("29 nothing in fact", x.told(2), 0);
         live(x, "A9B!3");
