@@ -603,6 +603,24 @@ public final class PromisesTest {
         due("28 none fits", x.watch(0), NONE);
         due("28 none fits", x.watch(1), NONE);
         due("28 outside ahead", x.watch(2), OUTSIDE);
+        watchInTheLastPlace();
+    }
+
+    /** 4 with nine tenths, else 6: habits 10 and 11 part nowhere but where LEAST is 6, with one sheet in eight years. */
+    private static void watchInTheLastPlace() {
+        SignedSheets x = new SignedSheets();
+        x.weight(4, 9);
+        for (int k : new int[] {1, 2, 3, 5, 7, 8, 9}) {
+            x.weight(k, 0);
+        }
+        due("28 least", x.least(1, 7), 5);
+        due("28 least", x.least(1, 8), 6);
+        x.seen(1, 2, 4, false);
+        x.seen(1, 2, 5, true);
+        x.seen(1, 1, 1, true);
+        due("28 two fit", x.signs(), 3072);
+        due("28 they part", x.watch(0), 185);
+        due("28 they part", x.watch(1), 1);
     }
 
     private static void p29Book() {
