@@ -73,6 +73,7 @@ final class Sentences {
             if (isRefusal(calls.get(i).want)) {
                 List<Call> ahead = calls.subList(0, i);
                 String call = written(calls.get(i));
+                due.holds(sentence + ": there is room for all of the look behind the refused " + call, i + 1 + longestLook() <= CALLS);
                 samePast(sentence + ": behind the refused " + call, calls.subList(0, i + 1), ahead);
             }
         }
@@ -107,6 +108,10 @@ final class Sentences {
         } else {
             due.is(what, got, number(want));
         }
+    }
+
+    private int longestLook() {
+        return looks.stream().mapToInt(List::size).max().getAsInt();
     }
 
     private static boolean isAsking(Call call) {
